@@ -83,7 +83,7 @@ public final class OneSunbeam {
         beams = new Beams();
         keepers = new Keepers(beams);
         aiming = new Aiming(beams);
-        mending = new Mending(beams);
+        mending = new Mending(town, beams);
         opening = new Opening(beams);
         theft = new Theft();
         reader = new LawReader();
@@ -372,7 +372,7 @@ public final class OneSunbeam {
         if (!town.isLit(hour) || !town.hasMirror(mirror) || !isWithin(what, 0, Mending.ANSWERS - 1)) {
             return NONE;
         }
-        mending.begin(town, hour, mirror);
+        mending.begin(hour, mirror);
         if (!mending.needsNone() && !mending.findOne()) {
             mending.findTwo();
         }
@@ -669,7 +669,7 @@ public final class OneSunbeam {
         }
 
         boolean isOpen(int x, int y) {
-            return hasCell(x, y) && rock[cellOf(x, y)] == 0;
+            return x >= 0 && x < columns && y >= 0 && y < rows && rock[MOST_SIDE * y + x] == 0;
         }
 
         boolean hasRectangle(int x, int y, int toX, int toY) {
@@ -759,10 +759,8 @@ public final class OneSunbeam {
             return made;
         }
 
-        /** The mirror at a cell that turns light, or NONE. */
-        int turningAt(int cell) {
-            int mirror = mirrorAt[cell];
-            return mirror == NONE || mirrorTable[BROKEN * MOST_MIRRORS + mirror] == 1 ? NONE : mirror;
+        boolean isWhole(int mirror) {
+            return mirrorTable[BROKEN * MOST_MIRRORS + mirror] == 0;
         }
 
         int takeAt(int cell) {
@@ -939,8 +937,8 @@ public final class OneSunbeam {
                 if (town.yardAt[cell] != NONE) {
                     left = passYard(town, town.yardAt[cell], left);
                 }
-                int mirror = town.turningAt(cell);
-                if (mirror != NONE) {
+                int mirror = town.mirrorAt[cell];
+                if (mirror != NONE && town.isWhole(mirror)) {
                     left = passMirror(town, mirror, cell * WAYS + way, left);
                     way = town.wayFrom(mirror, way);
                 }
@@ -1419,7 +1417,6 @@ public final class OneSunbeam {
         private final Beams beams;
         private final int[] gotToday = new int[MOST_YARDS];
         private final long[] stack = new long[MOST_STACK];
-        private Town place;
         private int hour;
 
         Keepers(Beams beams) {
@@ -1428,7 +1425,6 @@ public final class OneSunbeam {
 
         /** One day by a law: in how many hours there was a blind cell, or 0 if that is not watched. */
         int passDay(Town town, Law law, boolean isWatching) {
-            place = town;
             Arrays.fill(gotToday, 0);
             int blindHours = 0;
             for (int at = 0; at < HOURS; at++) {
@@ -1453,8 +1449,8 @@ public final class OneSunbeam {
             int turned = 0;
             for (int clause = 0; clause < law.clauseCount; clause++) {
                 int mirror = law.mirror[clause];
-                if (town.hasMirror(mirror) && (turned >> mirror & 1) == 0 && holds(law, clause)) {
-                    long sum = valueOf(law, law.sumFrom[clause], law.testFrom[clause], mirror);
+                if (town.hasMirror(mirror) && (turned >> mirror & 1) == 0 && holds(town, law, clause)) {
+                    long sum = valueOf(town, law, law.sumFrom[clause], law.testFrom[clause], mirror);
                     town.turnTowards(mirror, (int) (sum & (WAYS - 1)));
                     turned |= 1 << mirror;
                 }
@@ -1467,18 +1463,18 @@ public final class OneSunbeam {
             }
         }
 
-        private boolean holds(Law law, int clause) {
+        private boolean holds(Town town, Law law, int clause) {
             int from = law.testFrom[clause];
             int to = law.testTo[clause];
-            return from == to || valueOf(law, from, to, law.mirror[clause]) != 0;
+            return from == to || valueOf(town, law, from, to, law.mirror[clause]) != 0;
         }
 
-        private long valueOf(Law law, int from, int to, int mirror) {
+        private long valueOf(Town town, Law law, int from, int to, int mirror) {
             int depth = 0;
             for (int at = from; at < to; at++) {
                 int sign = law.code[at];
                 if (sign > Law.NOT && depth < MOST_STACK) {
-                    stack[depth] = sign >= 0 ? sign : wordValue(sign, mirror);
+                    stack[depth] = sign >= 0 ? sign : wordValue(town, sign, mirror);
                     depth++;
                 } else if (sign == Law.NOT && depth >= 1) {
                     stack[depth - 1] = 1 - stack[depth - 1];
@@ -1490,18 +1486,18 @@ public final class OneSunbeam {
             return depth >= 1 ? stack[0] : 0;
         }
 
-        private long wordValue(int word, int mirror) {
+        private long wordValue(Town town, int word, int mirror) {
             switch (word) {
                 case Law.HOUR:
                     return hour;
                 case Law.MONTH:
-                    return place.month;
+                    return town.month;
                 case Law.DAY:
-                    return place.day;
+                    return town.day;
                 case Law.OWN_SLANT:
-                    return place.ofMirror(mirror, SLANT);
+                    return town.ofMirror(mirror, SLANT);
                 case Law.SUN:
-                    return place.isLit(hour) ? place.wayOf(hour) : WAYS;
+                    return town.isLit(hour) ? town.wayOf(hour) : WAYS;
                 default:
                     return gotByYard(Law.YARD_A - word);
             }
@@ -1643,23 +1639,23 @@ public final class OneSunbeam {
         static final int ANSWERS = 5;
 
         final int[] answers = new int[ANSWERS];
+        private final Town town;
         private final Beams beams;
         private final int[] needed = new int[MOST_YARDS];
         /** The mirrors to which light comes when one is turned to a slant. */
         private final int[] touchedWith = new int[MOST_MIRRORS * WAYS];
-        private Town place;
         private int hour;
         private int breaking;
         private int brokenBefore;
         private int touchedNow;
 
-        Mending(Beams beams) {
+        Mending(Town town, Beams beams) {
+            this.town = town;
             this.beams = beams;
         }
 
         /** The mirror breaks, until it is put back. */
-        void begin(Town town, int atHour, int mirror) {
-            place = town;
+        void begin(int atHour, int mirror) {
             hour = atHour;
             breaking = mirror;
             brokenBefore = town.ofMirror(mirror, BROKEN);
@@ -1672,7 +1668,7 @@ public final class OneSunbeam {
         }
 
         void restore() {
-            place.setMirror(breaking, BROKEN, brokenBefore);
+            town.setMirror(breaking, BROKEN, brokenBefore);
         }
 
         boolean needsNone() {
@@ -1685,8 +1681,8 @@ public final class OneSunbeam {
         }
 
         boolean findOne() {
-            for (int mirror = 0; mirror < place.mirrorCount; mirror++) {
-                int before = place.ofMirror(mirror, SLANT);
+            for (int mirror = 0; mirror < town.mirrorCount; mirror++) {
+                int before = town.ofMirror(mirror, SLANT);
                 for (int slant = 0; slant < WAYS; slant++) {
                     touchedWith[mirror * WAYS + slant] = touchedNow;
                     if (isIn(touchedNow, mirror) && slant != before && isMendedBy(mirror, slant)) {
@@ -1701,8 +1697,8 @@ public final class OneSunbeam {
         }
 
         boolean findTwo() {
-            for (int one = 0; one < place.mirrorCount; one++) {
-                for (int other = one + 1; other < place.mirrorCount; other++) {
+            for (int one = 0; one < town.mirrorCount; one++) {
+                for (int other = one + 1; other < town.mirrorCount; other++) {
                     if (findSlants(one, other)) {
                         answers[0] = 2;
                         answers[1] = one;
@@ -1715,7 +1711,7 @@ public final class OneSunbeam {
         }
 
         private boolean isEnough() {
-            beams.shine(place, hour);
+            beams.shine(town, hour);
             for (int yard = 0; yard < MOST_YARDS; yard++) {
                 if (beams.got[yard] < needed[yard]) {
                     return false;
@@ -1725,32 +1721,32 @@ public final class OneSunbeam {
         }
 
         private boolean isMendedBy(int mirror, int slant) {
-            int before = place.ofMirror(mirror, SLANT);
-            place.setMirror(mirror, SLANT, slant);
+            int before = town.ofMirror(mirror, SLANT);
+            town.setMirror(mirror, SLANT, slant);
             boolean isMended = isEnough();
             touchedWith[mirror * WAYS + slant] = beams.touchedSet();
-            place.setMirror(mirror, SLANT, before);
+            town.setMirror(mirror, SLANT, before);
             return isMended;
         }
 
         private boolean findSlants(int one, int other) {
-            int oneBefore = place.ofMirror(one, SLANT);
-            int otherBefore = place.ofMirror(other, SLANT);
+            int oneBefore = town.ofMirror(one, SLANT);
+            int otherBefore = town.ofMirror(other, SLANT);
             boolean isMended = false;
             for (int pair = 0; pair < WAYS * WAYS && !isMended; pair++) {
                 int oneSlant = pair / WAYS;
                 int otherSlant = pair % WAYS;
                 if (oneSlant != oneBefore && otherSlant != otherBefore
                         && doesPairMatter(one, oneSlant, other, otherSlant)) {
-                    place.setMirror(one, SLANT, oneSlant);
-                    place.setMirror(other, SLANT, otherSlant);
+                    town.setMirror(one, SLANT, oneSlant);
+                    town.setMirror(other, SLANT, otherSlant);
                     isMended = isEnough();
                     answers[2] = isMended ? oneSlant : REFUSED;
                     answers[4] = isMended ? otherSlant : REFUSED;
                 }
             }
-            place.setMirror(one, SLANT, oneBefore);
-            place.setMirror(other, SLANT, otherBefore);
+            town.setMirror(one, SLANT, oneBefore);
+            town.setMirror(other, SLANT, otherBefore);
             return isMended;
         }
 
@@ -1872,8 +1868,8 @@ public final class OneSunbeam {
                 }
                 left -= shareOf(left, town.air);
                 left -= shareOf(left, town.takeAt(cellOf(x, y)));
-                int here = town.turningAt(cellOf(x, y));
-                if (here != NONE) {
+                int here = town.mirrorAt[cellOf(x, y)];
+                if (here != NONE && town.isWhole(here)) {
                     if ((met >> here & 1) == 0) {
                         met |= 1 << here;
                         left = meet(here, left);
