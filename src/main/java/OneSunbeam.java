@@ -1696,18 +1696,17 @@ public final class OneSunbeam {
             return false;
         }
 
-        boolean findTwo() {
+        void findTwo() {
             for (int one = 0; one < town.mirrorCount; one++) {
                 for (int other = one + 1; other < town.mirrorCount; other++) {
                     if (findSlants(one, other)) {
                         answers[0] = 2;
                         answers[1] = one;
                         answers[3] = other;
-                        return true;
+                        return;
                     }
                 }
             }
-            return false;
         }
 
         private boolean isEnough() {

@@ -18,7 +18,7 @@ public final class ModelTest {
 
     public static void main(String[] arguments) {
         long from = arguments.length > 0 ? Long.parseLong(arguments[0]) : 0;
-        long runs = arguments.length > 1 ? Long.parseLong(arguments[1]) : 400;
+        long runs = arguments.length > 1 ? Long.parseLong(arguments[1]) : 1000;
         for (long seed = from; seed < from + runs; seed++) {
             new ModelTest(seed).run();
         }

@@ -31,6 +31,7 @@ public final class PromisesTest {
         faults();
         moreFaults();
         lawWords();
+        yardWords();
         days();
         turning();
         readers();
@@ -46,6 +47,7 @@ public final class PromisesTest {
         second();
         thief();
         dusty();
+        dustyByTrying();
         dark();
         ahead();
         count();
@@ -329,6 +331,8 @@ public final class PromisesTest {
         fault("turn", 4, 0);
         fault("turn  ", 6, 0);
         fault("turns 1 1", 0, 0);
+        fault("turnz 1 1", 0, 0);
+        fault("burn 1 1", 0, 0);
         fault("  Turn 1 1", 2, 0);
         fault("turn a 1", 5, 0);
         fault("turn 24 1", 5, 1);
@@ -425,12 +429,28 @@ public final class PromisesTest {
         slantBy("5 if 1 = 1 or 1 = 1 and 1 = 2", 5);
         slantBy("5 if [1 = 1 or 1 = 1] and 1 = 2", 1);
         slantBy("5 if not not 1 <= 1", 5);
+        slantBy("5 if 2 >= 2", 5);
+        slantBy("5 if 2 > 2 or 2 < 2", 1);
+        slantBy("5 if 2 = 3 or 2 >= 3 or 3 <= 2", 1);
         slantBy("5 if not 1 < 1 and not 1 > 1", 5);
         slantBy("3 if hour < 23; turn 0 6 if hour > 5; turn 0 1", 6);
         slantBy("3 if sun = 8; turn 0 6", 6);
         slantBy("sun if hour = 22", 0);
         slantBy("5; turn 0 6", 5);
         slantBy("1; turn 9 3", 1);
+    }
+
+    private static void yardWords() {
+        for (int yard = 0; yard < 8; yard++) {
+            OneSunbeam x = plain();
+            for (int i = 0; i < yard; i++) x.yard(0, 5, 0, 5, 1000, 0);
+            x.yard(4, 1, 4, 1, 5, 0);
+            x.mirror(6, 4, 0, 0, 0, 4, 0);
+            law(x, "turn 0 " + (char) ('a' + yard) + " if hour = 1");
+            x.days(0, 1);
+            due(14, "what yard " + yard + " got so far", x.mirrors(0, 2), 5);
+            due(14, "its light", x.yards(yard, 0), 5);
+        }
     }
 
     private static void days() {
@@ -524,6 +544,12 @@ public final class PromisesTest {
         due(19, "all", x.light(0, 0), 756);
         x.month(1);
         due(18, "a dark month", x.gets(0, 0), NONE);
+        x.sun(1, 0, 0, 1000);
+        x.month(0);
+        due(18, "no hour of the next month", x.gets(24, 0), NONE);
+        x.month(11);
+        due(18, "no hour behind the last month", x.gets(24, 0), NONE);
+        due(18, "no hour ahead of the first", x.gets(-1, 0), NONE);
     }
 
     private static void light() {
@@ -746,6 +772,24 @@ public final class PromisesTest {
         due(26, "no such what", x.mends(0, 0, -1), NONE);
         due(26, "no such mirror", x.mends(0, 3, 0), NONE);
         due(26, "dark", x.mends(1, 0, 0), NONE);
+        mendsByTwo();
+    }
+
+    /** The first of all pairs and slants: mirrors 0 and 1, both to slant 0. */
+    private static void mendsByTwo() {
+        OneSunbeam x = new OneSunbeam();
+        x.town(8, 6, 0, 0, 0);
+        x.sun(0, 0, 1, 1000);
+        x.mirror(2, 2, 3, 0, 0, 0, 0);
+        x.mirror(4, 0, 3, 0, 0, 0, 0);
+        x.mirror(1, 1, 1, 0, 0, 0, 0);
+        x.rock(4, 2, 4, 2, true);
+        x.yard(6, 1, 6, 2, 1000, 0);
+        int[] want = {2, 0, 0, 1, 0};
+        for (int what = 0; what < 5; what++) due(26, "two, what " + what, x.mends(0, 2, what), want[what]);
+        x.rock(4, 2, 4, 2, false);
+        int[] wantOne = {1, 0, 1, -2, -2};
+        for (int what = 0; what < 5; what++) due(26, "one, what " + what, x.mends(0, 2, what), wantOne[what]);
     }
 
     private static void second() {
@@ -829,6 +873,13 @@ public final class PromisesTest {
         due(28, "explained", y.thief(0, 2), 1);
     }
 
+    private static int dustyOne() {
+        OneSunbeam x = plain();
+        x.mirror(3, 1, 2, 0, 0, 0, 0);
+        x.yard(3, 3, 3, 3, 1000, 0);
+        return x.dusty(0, 0, 0, 999);
+    }
+
     private static void dusty() {
         OneSunbeam x = plain();
         x.mirror(3, 1, 2, 200, 0, 0, 0);
@@ -838,6 +889,7 @@ public final class PromisesTest {
         x.sets(0, 1, 7);
         // Yard b takes 100 first; 900 come to the mirror.
         due(29, "none is needed", x.dusty(0, 0, 0, 720), 0);
+        due(29, "one is enough", dustyOne(), 1);
         due(29, "201 thousandths take no more, 202 do", x.dusty(0, 0, 0, 719), 2);
         due(29, "all", x.dusty(0, 0, 0, 0), 800);
         due(29, "one is left of 900 at 999 thousandths", x.dusty(0, 0, 0, 1), 799);
@@ -853,6 +905,25 @@ public final class PromisesTest {
         due(29, "dark", x.dusty(1, 0, 0, 1), NONE);
         x.sets(0, 2, 1);
         due(29, "broken", x.dusty(0, 0, 0, 0), 0);
+    }
+
+    /** Beams that the limits cut: each dust is tried by calls of the face. */
+    private static void dustyByTrying() {
+        OneSunbeam x = new OneSunbeam();
+        x.town(4, 4, 1, 1, 0);
+        x.sun(0, 0, 0, 99999);
+        x.mirror(0, 1, 4, 0, 3, 0, 0);
+        x.mirror(3, 1, 4, 0, 2, 0, 0);
+        x.mirror(2, 1, 4, 0, 970, 0, 0);
+        x.yard(1, 0, 1, 3, 2, 0);
+        due(29, "the limit of cells is met", x.light(0, 3), 2000);
+        int most = x.gets(0, 0);
+        for (int light = most - 1; light > 0; light -= most / 7) {
+            int least = 0;
+            while (x.sets(0, 1, least) != -2 && x.gets(0, 0) > light) least++;
+            x.sets(0, 1, 0);
+            due(29, "no more than " + light, x.dusty(0, 0, 0, light), least > 1000 ? -2 : least);
+        }
     }
 
     private static void dark() {
