@@ -415,7 +415,7 @@ public final class OneSunbeam {
 
     public int dark(int law, int yard, int bound) {
         Law rule = findLaw(law);
-        if (rule == null || !town.hasYard(yard)) {
+        if (rule == null || !town.hasYard(yard) || bound < 0) {
             return NONE;
         }
         int months = 0;

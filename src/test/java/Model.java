@@ -763,7 +763,7 @@ final class Model {
     }
 
     int dark(int law, int yard, int bound) {
-        if (!hasLaw(law) || findYard(yard) == null) return -1;
+        if (!hasLaw(law) || findYard(yard) == null || bound < 0) return -1;
         int bits = 0;
         for (int month = 0; month < 12; month++) {
             State other = s.copy();

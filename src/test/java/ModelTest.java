@@ -188,7 +188,7 @@ public final class ModelTest {
             case 11: both.call("second", hour(), pick(3)); break;
             case 12: case 13: both.call("thief", hour(), pick(3)); break;
             case 14: dusty(mirror, yard); break;
-            case 15: both.call("dark", pick(3), yard, pick(3) == 0 ? pick(100000) : pick(5000)); break;
+            case 15: both.call("dark", pick(3), yard, pick(3) == 0 ? pick(100000) : pick(5000) - 50); break;
             case 16: both.call("ahead", pick(3), 1 + pick(4), pick(5) - 2); break;
             case 17: both.call("count", pick(10)); break;
             case 18: both.call("mirrors", mirror, pick(10)); break;

@@ -937,6 +937,10 @@ public final class PromisesTest {
         due(30, "below 401", x.dark(0, 0, 401), 4095 & ~(1 << 0) & ~(1 << 4));
         due(30, "below 400", x.dark(0, 0, 400), 4095 & ~(1 << 0) & ~(1 << 3) & ~(1 << 4));
         due(30, "below 0", x.dark(0, 0, 0), 0);
+        due(30, "a high bound", x.dark(0, 0, Integer.MAX_VALUE), 4095);
+        due(30, "NONE is no bound", x.dark(0, 0, NONE), NONE);
+        due(30, "no such bound", x.dark(0, 0, -2), NONE);
+        due(30, "no such bound", x.dark(0, 0, Integer.MIN_VALUE), NONE);
         due(30, "no such law", x.dark(1, 0, 1), NONE);
         due(30, "no such law", x.dark(-1, 0, 1), NONE);
         due(30, "no such yard", x.dark(0, 1, 1), NONE);
