@@ -366,6 +366,15 @@ public final class BeamBoundsTest {
 
     private static void oneMoreIsSpilt() {
         Bounds.by("what would come into one more is SPILT");
+        for (int strength = 1; strength < 3; strength++) {
+            OneSunbeam x = new OneSunbeam();
+            x.town(4, 4, 1, 1, 0);
+            x.sun(0, 0, 0, strength);
+            x.mirror(0, 1, 4, 0, 0, 0, 0);
+            x.mirror(3, 1, 4, 0, 0, 0, 0);
+            Bounds.due("cells of " + strength, x.light(0, 3), 2000);
+            Bounds.due("spilt of " + strength, x.light(0, 2), strength);
+        }
         int[] eleven = {1, 2, 3, 4, 5, 6, 7, 8, 9, 10, 17};
         int[][] told = {{14, 1999, 0}, {13, 2000, 0}, {12, 2000, 7}};
         for (int[] of : told) {
@@ -476,6 +485,13 @@ public final class BeamBoundsTest {
         x.sun(0, 0, 0, 1);
         x.eyes(5, 1, 0);
         Bounds.due("1 is above 0", x.light(0, 5), 1);
+        OneSunbeam y = new OneSunbeam();
+        y.town(24, 24, 0, 0, 0);
+        y.sun(0, 0, 1, 10);
+        y.eyes(0, 0, 9);
+        Bounds.due("the first cell", y.light(0, 5), 1);
+        y.eyes(23, 23, 9);
+        Bounds.due("the last cell, too", y.light(0, 5), 2);
     }
 
     private static void firstBlind() {

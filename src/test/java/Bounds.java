@@ -100,6 +100,7 @@ final class Bounds {
 
     static final Start NEW = OneSunbeam::new;
     static final Start BUSY = Bounds::busy;
+    static final Start FULL = Bounds::fullOfMirrors;
 
     /** Eyes around the gap tell by which way light comes in; two laws, two images, a text on the tape. */
     static OneSunbeam busy() {
@@ -138,10 +139,12 @@ final class Bounds {
         return x;
     }
 
-    /** A town of 24 mirrors, with a law and a text on the tape. */
+    /** A town of 24 mirrors, on which dust falls, with a law and a text on the tape. */
     static OneSunbeam fullOfMirrors() {
         OneSunbeam x = plain();
         for (int i = 0; i < 24; i++) x.mirror(i % 8, 2 + i / 8, i % 8, i, 0, 1, 0);
+        x.yard(0, 1, 0, 1, 100, 0);
+        x.falls(5);
         law(x, "turn 0 1");
         feed(x, "turn 0 2");
         return x;
@@ -176,16 +179,19 @@ final class Bounds {
     static void standsInTown(OneSunbeam x, List<Integer> seen) {
         for (int what = 0; what < 8; what++) seen.add(x.count(what));
         // A large town is looked at in its corner: an object has 512 calls.
-        for (int row = 0; row < Math.min(5, x.count(1)); row++) {
-            for (int column = 0; column < Math.min(5, x.count(0)); column++) {
+        int rows = Math.min(5, x.count(1));
+        int columns = Math.min(5, x.count(0));
+        for (int row = 0; row < rows; row++) {
+            for (int column = 0; column < columns; column++) {
                 for (int what = 0; what < 4; what++) seen.add(x.cell(column, row, what));
             }
         }
         int mirrors = x.count(2);
         for (int mirror = 0; mirror < mirrors; mirror++) {
-            for (int what = mirrors > 10 ? 7 : 0; what < 10; what++) seen.add(x.mirrors(mirror, what));
+            for (int what = 0; what < 10; what++) seen.add(x.mirrors(mirror, what));
         }
-        for (int yard = 0; yard < x.count(3); yard++) {
+        int yards = x.count(3);
+        for (int yard = 0; yard < yards; yard++) {
             for (int what = 0; what < 7; what++) seen.add(x.yards(yard, what));
         }
     }

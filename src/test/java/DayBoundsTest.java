@@ -18,6 +18,7 @@ public final class DayBoundsTest {
         division();
         sixtyFourBits();
         signs();
+        sumsOfAFact();
         notAndOr();
         firstClauseThatHolds();
         restOfEight();
@@ -265,6 +266,42 @@ public final class DayBoundsTest {
         }
     }
 
+    private static void sumsOfAFact() {
+        Bounds.by("SUM SIGN SUM. SUM: TERM { (+ or -) TERM }. TERM: VALUE { (* or /) VALUE }");
+        String[] signs = {"<", "<=", "=", ">=", ">"};
+        int[][] sides = {{5, 2, 4}, {6, 2, 4}, {7, 2, 4}, {0, 5, 4}, {1, 5, 4}, {2, 5, 4}, {0, 0, 1}};
+        for (int[] of : sides) {
+            for (int sign = 0; sign < 5; sign++) {
+                String by = " " + signs[sign] + " ";
+                slant("3 if " + of[0] + by + of[1] + " + " + of[2], doesHold(of[0], sign, of[1] + of[2]) ? 3 : 0);
+                slant("3 if " + of[0] + by + of[1] + " - " + of[2], doesHold(of[0], sign, of[1] - of[2]) ? 3 : 0);
+                slant("3 if " + of[0] + by + of[1] + " * " + of[2], doesHold(of[0], sign, of[1] * of[2]) ? 3 : 0);
+                slant("3 if " + of[0] + by + of[1] + " / " + of[2], doesHold(of[0], sign, of[1] / of[2]) ? 3 : 0);
+                slant("3 if " + of[1] + " + " + of[2] + by + of[0], doesHold(of[1] + of[2], sign, of[0]) ? 3 : 0);
+                slant("3 if " + of[1] + " - " + of[2] + by + of[0], doesHold(of[1] - of[2], sign, of[0]) ? 3 : 0);
+                slant("3 if " + of[1] + " * " + of[2] + by + of[0], doesHold(of[1] * of[2], sign, of[0]) ? 3 : 0);
+            }
+        }
+        slant("2 + 3 * 4", 6);
+        slant("2 * 3 + 4", 2);
+        slant("9 - 3 - 2", 4);
+        slant("9 - 3 + 2", 0);
+        slant("24 / 4 / 2", 3);
+        slant("24 / 4 * 2", 4);
+        slant("3 * 5 / 2", 7);
+        slant("5 / 2 * 3", 6);
+    }
+
+    private static boolean doesHold(int left, int sign, int right) {
+        switch (sign) {
+            case 0: return left < right;
+            case 1: return left <= right;
+            case 2: return left == right;
+            case 3: return left >= right;
+            default: return left > right;
+        }
+    }
+
     private static void notAndOr() {
         Bounds.by("TEST: PART { or PART }. PART: FACT { and FACT }. FACT: not FACT | [ TEST ]");
         String[] facts = {"1=2", "1=1"};
@@ -391,6 +428,12 @@ public final class DayBoundsTest {
         x.falls(0);
         x.days(0, 1);
         Bounds.due("no dust falls", x.mirrors(0, 7), 99);
+        OneSunbeam full = Bounds.fullOfMirrors();
+        full.days(0, 2);
+        for (int i = 0; i < 24; i++) {
+            Bounds.due("of all 24", full.mirrors(i, 7), 10);
+            Bounds.due("nothing but their dust", full.mirrors(i, 8), 0);
+        }
         OneSunbeam y = Bounds.plain();
         y.mirror(3, 1, 2, 0, 0, 0, 0);
         y.yard(3, 3, 3, 3, 1000, 0);

@@ -39,6 +39,7 @@ public final class HourBoundsTest {
         thiefExplains();
         thiefRefused();
         dusty();
+        dustyByTrying();
         dustyNone();
         dustyRefused();
         Bounds.end();
@@ -134,6 +135,8 @@ public final class HourBoundsTest {
             int of = mirror;
             Bounds.refused("nothing happens", Bounds.busy().worth(0, mirror), x -> x.worth(0, of));
         }
+        Bounds.refused(Bounds.FULL, "nothing happens to the first of 24", 0, x -> x.worth(0, 0));
+        Bounds.refused(Bounds.FULL, "nothing happens to the last of 24", 0, x -> x.worth(0, 23));
     }
 
     private static void owned() {
@@ -169,6 +172,8 @@ public final class HourBoundsTest {
         Bounds.refused("a dark hour", -1000000, x -> x.owned(1, 0));
         Bounds.refused("far", -1000000, x -> x.owned(LEAST, MOST));
         Bounds.refused("nothing happens", Bounds.busy().owned(0, 4), x -> x.owned(0, 4));
+        Bounds.refused(Bounds.FULL, "nothing happens to all of 24", 0, x -> x.owned(0, 0));
+        Bounds.refused(Bounds.FULL, "nothing happens to none of 24", 0, x -> x.owned(0, 1));
     }
 
     /** Light goes straight down row 1 of 24 mirrors' town to a yard, or not; mirror 23 stands in the row. */
@@ -257,7 +262,27 @@ public final class HourBoundsTest {
         Bounds.due("0 and 1", x.aim(0, 0, 3, 0), 2);
         Bounds.due("0 and 1", x.aim(0, 0, 3, 1), 2);
         Bounds.due("nothing is ever got", x.aim(0, 0, 2, -1), 0);
+        aimLast();
         Bounds.due("the first slant then", x.aim(0, 0, 2, 0), 0);
+    }
+
+    /** Four mirrors to each of which light comes, whichever slants they have: 4096 tries, of which the last is the best. */
+    private static void aimLast() {
+        OneSunbeam x = new OneSunbeam();
+        x.town(24, 4, 0, 1, 0);
+        x.sun(0, 0, 0, 99999);
+        x.yard(0, 0, 23, 0, 1000, 0);
+        for (int i = 0; i < 4; i++) {
+            x.mirror(1 + 3 * i, 1, 1, 0, 500, 0, 0);
+            x.rock(3 * i, 0, 3 * i + 1, 0, true);
+        }
+        // Between them others that let half through and send the rest away: no light goes to and fro for ever.
+        for (int i = 1; i < 4; i++) x.mirror(3 * i, 1, 2, 0, 500, 0, 0);
+        // By slant 7 half of what comes goes right and up, into the yard; left and up and straight up is rock.
+        Bounds.due("half of 99999, 24999, 6249 and 1562", x.aim(0, 0, 15, -1), 50000 + 12500 + 3125 + 781);
+        for (int k = 0; k < 4; k++) Bounds.due("the last slant of place " + k, x.aim(0, 0, 15, k), 7);
+        for (int k = 0; k < 4; k++) Bounds.due("the fairest, place " + k, x.fair(0, 15, k), 7);
+        for (int i = 0; i < 4; i++) Bounds.due("the slant stays", x.mirrors(i, 2), 1);
     }
 
     private static void aimRefused() {
@@ -444,19 +469,21 @@ public final class HourBoundsTest {
         for (int seed = 0; seed < 48; seed++) {
             int[] want = mendsByTrying(seed);
             found[want[0] < 0 ? 3 : want[0]]++;
-            mendsIs(strewn(seed), 0, want);
+            mendsIs(strewn(seed), BREAKS, want);
         }
         for (int many = 1; many < 4; many++) Bounds.due("there are towns of kind " + many, found[many] >= 3, true);
     }
 
-    /** Mirrors that a seed turns; light comes to mirror 0, which sends it to a yard. */
+    private static final int BREAKS = 2;
+
+    /** Mirrors that a seed turns; light comes to mirror 2, which sends it to a yard. */
     private static OneSunbeam strewn(int seed) {
         OneSunbeam x = new OneSunbeam();
         x.town(7, 7, 0, 3, 0);
         x.sun(0, 0, 0, 1000);
-        x.mirror(2, 3, 2, 0, 0, 0, 0);
         x.mirror(6, 5, seed % 2 == 0 ? 6 : 5, 0, 0, 0, 0);
         x.mirror(4, 5, seed / 2 % 3 * 3, 0, 0, 0, 0);
+        x.mirror(2, 3, 2, 0, 0, 0, 0);
         x.mirror(4, 3, seed / 6 % 2 == 0 ? 7 : 2, 0, 100, 0, 0);
         x.mirror(6, 3, seed / 12 % 2 == 0 ? 2 : 7, 0, 0, 0, 0);
         x.yard(2, 5, 2, 6, 1000, 0);
@@ -473,16 +500,16 @@ public final class HourBoundsTest {
         int[] slants = new int[5];
         for (int mirror = 0; mirror < 5; mirror++) slants[mirror] = now.mirrors(mirror, 2);
         if (isMended(seed, needed)) return new int[] {0, -2, -2, -2, -2};
-        for (int mirror = 1; mirror < 5; mirror++) {
+        for (int mirror = 0; mirror < 5; mirror++) {
             for (int slant = 0; slant < 8; slant++) {
-                if (slant != slants[mirror] && isMended(seed, needed, mirror, slant)) {
+                if (mirror != BREAKS && slant != slants[mirror] && isMended(seed, needed, mirror, slant)) {
                     return new int[] {1, mirror, slant, -2, -2};
                 }
             }
         }
         for (int pair = 0; pair < 25 * 64; pair++) {
             int one = pair / 64 / 5, other = pair / 64 % 5, oneSlant = pair / 8 % 8, otherSlant = pair % 8;
-            boolean isPair = one >= 1 && other > one && oneSlant != slants[one] && otherSlant != slants[other];
+            boolean isPair = one != BREAKS && other != BREAKS && other > one && oneSlant != slants[one] && otherSlant != slants[other];
             if (isPair && isMended(seed, needed, one, oneSlant, other, otherSlant)) {
                 return new int[] {2, one, oneSlant, other, otherSlant};
             }
@@ -492,7 +519,7 @@ public final class HourBoundsTest {
 
     private static boolean isMended(int seed, int[] needed, int... turned) {
         OneSunbeam x = strewn(seed);
-        x.sets(0, 2, 1);
+        x.sets(BREAKS, 2, 1);
         for (int i = 0; i < turned.length; i += 2) x.sets(turned[i], 0, turned[i + 1]);
         return x.gets(0, 0) >= needed[0] && x.gets(0, 1) >= needed[1];
     }
@@ -534,7 +561,8 @@ public final class HourBoundsTest {
             int of = mirror;
             Bounds.refused("nothing happens", Bounds.busy().mends(0, mirror, 0), x -> x.mends(0, of, 0));
         }
-        Bounds.refused(() -> strewn(2), "nothing happens", strewn(2).mends(0, 0, 4), x -> x.mends(0, 0, 4));
+        Bounds.refused(Bounds.FULL, "nothing happens to 24", 0, x -> x.mends(0, 23, 0));
+        Bounds.refused(() -> strewn(2), "nothing happens", strewn(2).mends(0, BREAKS, 4), x -> x.mends(0, BREAKS, 4));
     }
 
     private static void secondIs(OneSunbeam x, int cell, int way, int most) {
@@ -729,6 +757,25 @@ public final class HourBoundsTest {
         x.sun(0, 0, 0, 0);
         x.sets(0, 3, 0);
         thiefIs(x, -2, 0, 0);
+        x.sun(0, 0, 0, 1);
+        thiefIs(x, 0, 1, 0);
+        x.sets(2, 3, 0);
+        thiefIs(x, 0, 1, 1);
+        thiefOf24();
+    }
+
+    private static void thiefOf24() {
+        OneSunbeam x = new OneSunbeam();
+        x.town(24, 4, 0, 1, 0);
+        x.sun(0, 0, 0, 1000);
+        for (int i = 0; i < 24; i++) x.mirror(23 - i, 1, 0, 0, 0, 0, 0);
+        x.sets(0, 3, 999);
+        // Mirror 0 is the last of 24.
+        thiefIs(x, 0, 1, 1);
+        x.sets(23, 3, 998);
+        thiefIs(x, 23, 2, 0);
+        x.sets(0, 3, 998);
+        thiefIs(x, 23, 2, 1);
     }
 
     private static void thiefAlongTheFirstBeam() {
@@ -822,6 +869,10 @@ public final class HourBoundsTest {
         thiefIs(x, 0, 1000, 0);
         x.sets(1, 3, 0);
         thiefIs(x, 0, 1000, 1);
+        // A mirror that the beam does not come to, theft or not, is not behind it.
+        x.yard(5, 1, 5, 1, 1000, 0);
+        x.sets(2, 3, 9);
+        thiefIs(x, 0, 1000, 1);
         // A reading of one ahead of it does not matter.
         OneSunbeam y = threeInARow();
         y.sets(0, 3, 5000);
@@ -869,6 +920,79 @@ public final class HourBoundsTest {
         Bounds.due("with a loss", dustyTown(99999, 999).dusty(0, 0, 0, 0), 1);
         Bounds.due("with all lost", dustyTown(99999, 1000).dusty(0, 0, 0, 0), 0);
         Bounds.due("no light", dustyTown(0, 0).dusty(0, 0, 0, 0), 0);
+    }
+
+    /** Beams from row 1 crowd some of row 3 out of the 60 that wait, unless mirror 2 is dusty. */
+    private static OneSunbeam crowd() {
+        OneSunbeam x = new OneSunbeam();
+        x.town(24, 4, 1, 1, 0);
+        x.sun(0, 0, 0, 99999);
+        x.mirror(1, 1, 2, 0, 50, 0, 0);
+        x.mirror(1, 3, 2, 0, 0, 0, 0);
+        x.mirror(3, 1, 0, 0, 0, 0, 0);
+        for (int i = 0; i < 8; i++) x.mirror(5 + i, 1, 0, 0, 1, 0, 0);
+        for (int i = 0; i < 11; i++) x.mirror(2 + i, 3, 0, 0, 9, 0, 0);
+        x.mirror(20, 1, 0, 999, 0, 0, 0);
+        x.yard(23, 0, 23, 3, 1000, 0);
+        return x;
+    }
+
+    /** To and fro between mirrors until 2000 cells are used up: dust leaves more cells for others. */
+    private static OneSunbeam toAndFro() {
+        OneSunbeam x = new OneSunbeam();
+        x.town(4, 4, 1, 1, 0);
+        x.sun(0, 0, 0, 99999);
+        x.mirror(3, 1, 4, 0, 2, 0, 0);
+        x.mirror(2, 1, 4, 0, 256, 0, 0);
+        x.mirror(0, 1, 4, 0, 2, 0, 0);
+        x.yard(2, 1, 2, 1, 573, 0);
+        return x;
+    }
+
+    /** What the yard gets with each dust of mirror 2; a new object for each 200, for an object has 512 calls. */
+    private static int[] getsWithEachDust(Bounds.Start start) {
+        int[] gets = new int[1001];
+        OneSunbeam x = start.make();
+        for (int dust = 0; dust <= 1000; dust++) {
+            if (dust % 200 == 0) x = start.make();
+            x.sets(2, 1, dust);
+            gets[dust] = x.gets(0, 0);
+        }
+        return gets;
+    }
+
+    private static void dustyByTrying() {
+        Bounds.by("the least DUST with which a YARD gets no more, though it may get more again with more dust");
+        for (Bounds.Start start : new Bounds.Start[] {HourBoundsTest::crowd, HourBoundsTest::toAndFro}) {
+            int[] gets = getsWithEachDust(start);
+            int rises = 0;
+            for (int dust = 1; dust <= 1000; dust++) rises += gets[dust] > gets[dust - 1] ? 1 : 0;
+            Bounds.due("it rises somewhere", rises > 0, true);
+            int least = gets[0];
+            for (int get : gets) least = Math.min(least, get);
+            for (int light = least - 1; light <= gets[0]; light += Math.max(1, (gets[0] - least) / 150)) {
+                int dust = 0;
+                while (dust <= 1000 && gets[dust] > light) dust++;
+                Bounds.due("no more than " + light, start.make().dusty(0, 2, 0, light), dust > 1000 ? -2 : dust);
+            }
+        }
+        Bounds.due("one less than without dust", crowd().dusty(0, 2, 0, 94984), 194);
+        Bounds.due("the least of all", crowd().dusty(0, 2, 0, 94982), 597);
+        Bounds.due("less than that", crowd().dusty(0, 2, 0, 94981), -2);
+        Bounds.due("with all dust it gets more than this", toAndFro().dusty(0, 2, 0, 66444), 566);
+        // What mirror 0 lets through goes round until 2000 cells are used up; the rest goes down to the yard.
+        OneSunbeam x = new OneSunbeam();
+        x.town(24, 4, 1, 1, 0);
+        x.sun(0, 0, 0, 99999);
+        x.mirror(1, 1, 2, 0, 3, 0, 0);
+        x.mirror(1, 0, 0, 0, 0, 0, 0);
+        x.mirror(23, 1, 4, 0, 0, 0, 0);
+        x.yard(1, 3, 1, 3, 1000, 0);
+        Bounds.due("cells", x.light(0, 3), 2000);
+        Bounds.due("as much as it gets", x.dusty(0, 0, 0, 99700), 0);
+        Bounds.due("one less", x.dusty(0, 0, 0, 99699), 1);
+        Bounds.due("100 are left at 999", x.dusty(0, 0, 0, 100), 999);
+        Bounds.due("not at 1000", x.dusty(0, 0, 0, 99), 1000);
     }
 
     private static void dustyNone() {

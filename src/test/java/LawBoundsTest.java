@@ -9,6 +9,7 @@ public final class LawBoundsTest {
         feedOrder();
         end();
         lawEmptiesTheTape();
+        oneBehindAnother();
         lawsAreFull();
         bytesOfALaw();
         clauses();
@@ -119,6 +120,39 @@ public final class LawBoundsTest {
         Bounds.due("laws", y.count(8), 1);
         y.days(0, 1);
         Bounds.due("a law is not changed by a fault behind it", y.mirrors(0, 2), 1);
+    }
+
+    /** A text with a fault, or a law, and behind it on the same object a law that turns mirror 0 to this slant. */
+    private static void behind(String before, String text, int slant) {
+        OneSunbeam x = Bounds.plain();
+        x.mirror(3, 3, 0, 0, 0, 4, 0);
+        int made = Bounds.law(x, before) >= 0 ? 1 : 0;
+        Bounds.due("'" + text + "' behind '" + before + "'", Bounds.law(x, text), made);
+        x.days(made, 1);
+        Bounds.due("slant by '" + text + "' behind '" + before + "'", x.mirrors(0, 2), slant);
+    }
+
+    private static void oneBehindAnother() {
+        Bounds.by("The TAPE, which is empty then, is a LAW: of another text nothing is left");
+        behind("turn 0 16", "turn 0 1", 1);
+        behind("turn 0 hour", "turn 0 h", 0);
+        behind("turn 0 ab", "turn 0 a", 0);
+        behind("turn 0 1+", "turn 0 2", 2);
+        behind("turn 0 1+2*", "turn 0 3", 3);
+        behind("turn 0 1 if [[[a=1", "turn 0 4", 4);
+        behind("turn 0 1 if not not not", "turn 0 5 if 1=1", 5);
+        behind("turn 0 1 if " + "[".repeat(11), "turn 0 6 if " + "[".repeat(10) + "1=1" + "]".repeat(10), 6);
+        behind("turn 0 1 if " + "not ".repeat(10), "turn 0 7 if " + "not ".repeat(10) + "1=1", 7);
+        behind("turn 0 1" + "+1".repeat(60), "turn 0 1" + "+1".repeat(58), 3);
+        behind("turn 0 1" + "+1".repeat(59), "turn 0 1" + "+1".repeat(59), 4);
+        behind("turn 0 1;".repeat(12), "turn 0 2;".repeat(11) + "turn 0 2", 2);
+        behind("turn 0 1;".repeat(11) + "turn 0 1", "turn 0 2;".repeat(11) + "turn 0 2", 2);
+        behind("turn 0 1;turn 0 2;turn 0", "turn 0 3", 3);
+        OneSunbeam x = new OneSunbeam();
+        Bounds.law(x, "turn 0 1 if 1<=2");
+        Bounds.due("its end is its end", Bounds.law(x, "turn 0 1 if 1<"), -2 - (1 + 8 * 14));
+        Bounds.due("its end is its end", Bounds.law(x, "turn 0"), -2 - (1 + 8 * 6));
+        Bounds.due("its end is its end", Bounds.law(x, "tur"), -2 - 1);
     }
 
     private static OneSunbeam sixLaws() {
@@ -274,6 +308,15 @@ public final class LawBoundsTest {
         fault("turn 0 a{", 8, 0);
         fault("turn 0 a1", 8, 0);
         fault("turn 0 aB", 8, 0);
+        fault("turnz 0 1", 0, 0);
+        fault("turn 0 az", 7, 0);
+        fault("turn 0 za", 7, 0);
+        fault("turn 0 hourz", 7, 0);
+        fault("turna 0 1", 0, 0);
+        // The letter behind h is no yard, and no other word.
+        fault("turn 0 1 if i a=1", 12, 0);
+        fault("turn 0 1 if a=1 i b=1", 16, 0);
+        fault("turn 0 1+i", 9, 0);
     }
 
     private static void blanks() {

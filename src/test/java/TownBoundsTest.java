@@ -168,10 +168,12 @@ public final class TownBoundsTest {
         Bounds.due("what stands", Bounds.seen(Bounds::standsInTown, again()), Bounds.seen(Bounds::standsInTown, anew()));
         Bounds.due("suns", Bounds.seen(Bounds::ways, again()), Bounds.seen(Bounds::ways, anew()));
         OneSunbeam x = again();
-        x.mirror(3, 2, 1, 2, 3, 4, 5);
-        Bounds.due("no reading", x.mirrors(0, 9), NONE);
-        Bounds.due("no dust", x.mirrors(0, 7), 0);
-        Bounds.due("not broken", x.mirrors(0, 8), 0);
+        for (int mirror = 0; mirror < 3; mirror++) {
+            Bounds.due("mirror", x.mirror(mirror, 2, 1, 2, 3, 4, 5), mirror);
+            Bounds.due("no reading", x.mirrors(mirror, 9), NONE);
+            Bounds.due("no dust", x.mirrors(mirror, 7), 0);
+            Bounds.due("not broken", x.mirrors(mirror, 8), 0);
+        }
         Bounds.due("a yard", x.yard(0, 0, 4, 4, 1, 0), 0);
         Bounds.due("its light", x.yards(0, 0), 0);
         Bounds.due("laws stay", x.count(8), 2);
@@ -331,7 +333,7 @@ public final class TownBoundsTest {
         for (int i = 0; i < 24; i++) Bounds.due("mirror", x.mirror(i % 8, 2 + i / 8, 0, 0, 0, 0, 0), i);
         Bounds.due("mirrors", x.count(2), 24);
         Bounds.due("where it stands", x.cell(7, 4, 2), 23);
-        Bounds.refused(Bounds::fullOfMirrors, "a 25th", NONE, town -> town.mirror(0, 0, 0, 0, 0, 0, 0));
+        Bounds.refused(Bounds.FULL, "a 25th", NONE, town -> town.mirror(0, 0, 0, 0, 0, 0, 0));
         OneSunbeam y = Bounds.fullOfMirrors();
         y.mirror(0, 0, 0, 0, 0, 0, 0);
         Bounds.due("mirrors", y.count(2), 24);
@@ -457,7 +459,7 @@ public final class TownBoundsTest {
         notSet(0, 4, 1);
         notSet(0, MOST, 1);
         Bounds.due("the last of 24", Bounds.fullOfMirrors().sets(23, 0, 0), 7);
-        Bounds.refused(Bounds::fullOfMirrors, "a 25th", -2, x -> x.sets(24, 0, 0));
+        Bounds.refused(Bounds.FULL, "a 25th", -2, x -> x.sets(24, 0, 0));
     }
 
     private static OneSunbeam fullOfYards() {
