@@ -287,7 +287,7 @@ public final class LawBoundsTest {
         for (String other : new String[] {"i", "j", "z", "aa", "turn", "if", "or", "and", "not", "A", "H", "`", "{"}) {
             fault("turn 0 " + other, 7, 0);
         }
-        for (String spoilt : new String[] {"tur", "turm", "urn", "tarn", "turnn", "i"}) fault(spoilt + " 0 1", 0, 0);
+        for (String spoilt : new String[] {"tur", "turm", "urn", "tarn", "burn", "zurn", "turnn", "i"}) fault(spoilt + " 0 1", 0, 0);
         for (String spoilt : new String[] {"i", "of", "ifs", "in"}) fault("turn 0 1 " + spoilt + " a=1", 9, 0);
         for (String spoilt : new String[] {"an", "ant", "ands", "o", "ot", "ore"}) fault("turn 0 1 if a=1 " + spoilt + " a=1", 16, 0);
         for (String spoilt : new String[] {"no", "nor", "nots", "dot"}) fault("turn 0 1 if " + spoilt + " a=1", 12, 0);
