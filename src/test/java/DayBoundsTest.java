@@ -97,6 +97,10 @@ public final class DayBoundsTest {
         Bounds.due("day", x.count(5), 9999);
         Bounds.due("thirty more", x.days(0, 30), NONE);
         Bounds.due("light stays", x.yards(0, 0), 50);
+        // The document refuses days() alone there: what would be can still be asked for.
+        Bounds.due("ten days ahead", x.ahead(0, 10, 0), 50);
+        Bounds.due("dark months", x.dark(0, 0, 50), 4095 & ~1);
+        Bounds.due("day", x.count(5), 9999);
         OneSunbeam y = atDay(9970);
         y.sun(0, 3, 0, 300);
         Bounds.due("10000", y.days(0, 30), NONE);
